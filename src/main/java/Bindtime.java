@@ -33,11 +33,11 @@ public final class Bindtime {
     private final EarlySet earlySet = new EarlySet();
     private final Making making = new Making(program);
     private boolean bodyWasSet;
-    private final Machine lastRun = new Machine();
+    private final Machine lastRun = new Machine(program);
     private boolean wasRun;
     private long stepSum;
-    private final Machine originalRun = new Machine();
-    private final Machine madeRun = new Machine();
+    private final Machine originalRun = new Machine(program);
+    private final Machine madeRun = new Machine(program);
 
     public Bindtime() {
     }
@@ -413,9 +413,23 @@ public final class Bindtime {
             count = 0;
         }
 
+        /** Makes room for more nodes; who adds nodes sees to it before, so that adding is one plain call. */
+        void reserve(int more) {
+            if (count + more <= kinds.length) {
+                return;
+            }
+            int room = 2 * (count + more);
+            char[] wide = new char[room];
+            System.arraycopy(kinds, 0, wide, 0, count);
+            kinds = wide;
+            a = widened(a, room);
+            b = widened(b, room);
+            c = widened(c, room);
+        }
+
         int add(char kind, int first, int second, int third) {
             if (count >= kinds.length) {
-                widen();
+                return NONE;
             }
             kinds[count] = kind;
             a[count] = first;
@@ -423,16 +437,6 @@ public final class Bindtime {
             c[count] = third;
             count++;
             return count - 1;
-        }
-
-        private void widen() {
-            int room = 2 * count + 8;
-            char[] wide = new char[room];
-            System.arraycopy(kinds, 0, wide, 0, count);
-            kinds = wide;
-            a = widened(a, room);
-            b = widened(b, room);
-            c = widened(c, room);
         }
 
         char kindOf(int node) {
@@ -505,8 +509,8 @@ public final class Bindtime {
         private static final int MOST_CALLS = 10;
         private static final int DIVISION_BY_ZERO = 900;
 
-        private Program program = null;
-        private int[] inputs = null;
+        private Program program;
+        private int[] inputs = new int[0];
         private int inputCount;
         private int inputsRead;
         private int allowed;
@@ -520,6 +524,10 @@ public final class Bindtime {
         private int stepCount;
         private char outcome = ENDED;
         private int number;
+
+        Machine(Program some) {
+            program = some;
+        }
 
         void execute(Program what, int first, int second, int steps, int[] given, int givenCount) {
             program = what;
@@ -873,8 +881,8 @@ public final class Bindtime {
         }
 
         boolean hasAnyOfFirst(int items) {
-            for (int item = 0; item < items; item++) {
-                if (has(item)) {
+            for (int item = 0; item < items && item < MOST; item++) {
+                if (isKnown[item]) {
                     return true;
                 }
             }
@@ -909,7 +917,7 @@ public final class Bindtime {
         private final Value first = new Value();
         private int kept;
         private boolean testIsIdle;
-        private Knowledge knowledge = null;
+        private Knowledge knowledge = new Knowledge();
     }
 
     /** The made procedures of a making, in the order in which they were found. */
@@ -980,16 +988,15 @@ public final class Bindtime {
 
         private int indexOf(int procedure, Value first, Value second) {
             for (int made = 0; made < count; made++) {
-                if (originals[made] == procedure && isFor(made, 0, first) && isFor(made, 1, second)) {
+                if (originals[made] == procedure && isFor(2 * made, first) && isFor(2 * made + 1, second)) {
                     return made;
                 }
             }
             return NONE;
         }
 
-        private boolean isFor(int made, int number, Value value) {
-            return isNumberKnown(made, number) == value.isKnown
-                    && (!value.isKnown || numberOf(made, number) == value.number);
+        private boolean isFor(int place, Value value) {
+            return isKnown[place] == value.isKnown && (!value.isKnown || numbers[place] == value.number);
         }
 
         private int countFor(int procedure) {
@@ -1005,15 +1012,12 @@ public final class Bindtime {
                 return NONE;
             }
             originals[count] = procedure;
-            setNumber(2 * count, first);
-            setNumber(2 * count + 1, second);
+            isKnown[2 * count] = first.isKnown;
+            numbers[2 * count] = first.isKnown ? first.number : 0;
+            isKnown[2 * count + 1] = second.isKnown;
+            numbers[2 * count + 1] = second.isKnown ? second.number : 0;
             count++;
             return count - 1;
-        }
-
-        private void setNumber(int place, Value value) {
-            isKnown[place] = value.isKnown;
-            numbers[place] = value.isKnown ? value.number : 0;
         }
     }
 
@@ -1025,6 +1029,8 @@ public final class Bindtime {
     private static final class Maker {
         private static final int MOST_MADE = 600;
         private static final int MOST_TURNS = 1000000;
+        /** More than one turn adds to the draft beside the row that it folds: two times all items carried out. */
+        private static final int MOST_ADDED = 8 * Knowledge.MOST;
         private static final int MOST_TASKS = MOST_NODES * (1 + MOST_AHEAD);
 
         private final Program source;
@@ -1060,19 +1066,25 @@ public final class Bindtime {
             }
         }
 
-        /** Answers the node in the draft that is the body, or NONE if the making fails. */
-        int makeBody(int made) {
+        void open(int made) {
             clear();
+            draft.reserve(MOST_ADDED);
             openOuterFrame(made);
             push(bodyAt(found.procedureOf(made)));
-            for (int turn = 0; turn < MOST_TURNS && taskCount > 0 && !hasFailed; turn++) {
-                goOn();
-            }
+        }
+
+        boolean isAtWork() {
+            return taskCount > 0 && taskCount <= MOST_TASKS && !hasFailed;
+        }
+
+        /** Answers the node in the draft that is the body, or NONE if the making fails. */
+        int close() {
             if (hasFailed) {
                 return NONE;
             }
+            reserve();
             if (now.hasAnyOfFirst(CELLS)) {
-                settle(value);
+                settle(value, rowEnd);
                 carryOutKnown(CELLS);
             }
             return rowAsNode(0, asNode(value));
@@ -1151,11 +1163,17 @@ public final class Bindtime {
             taskCount--;
         }
 
+        private void reserve() {
+            draft.reserve(MOST_ADDED + 2 * rowEnd);
+            row = widened(row, rowEnd + MOST_ADDED);
+        }
+
         private int part(Task task, int place) {
             return source.code.numberAt(task.node, place);
         }
 
-        private void goOn() {
+        void goOn() {
+            reserve();
             Task task = tasks[taskCount - 1];
             char kind = source.code.kindOf(task.node);
             int stage = task.stage;
@@ -1200,8 +1218,22 @@ public final class Bindtime {
                 push(part(task, place));
                 return;
             }
-            finishOne(kind, part(task, 0));
             pop();
+            int a = part(task, 0);
+            switch (kind) {
+                case 's':
+                    assign(itemOfSlot(frameCount - 1, a), 's', innermost().firstSlot + a);
+                    break;
+                case 'w':
+                    assign(a, 'w', a);
+                    break;
+                case 'o':
+                    finishOut();
+                    break;
+                default:
+                    finishThrow();
+                    break;
+            }
         }
 
         private void goOnWithPair(Task task, int stage, char kind) {
@@ -1306,27 +1338,6 @@ public final class Bindtime {
             }
         }
 
-        private void finishOne(char kind, int a) {
-            switch (kind) {
-                case 's':
-                    assign(itemOfSlot(frameCount - 1, a), 's', innermost().firstSlot + a);
-                    break;
-                case 'w':
-                    assign(a, 'w', a);
-                    break;
-                case 'o':
-                    finishOut();
-                    break;
-                default:
-                    if (mustBeSafe()) {
-                        settle(value);
-                        carryOutKnown(seenItems());
-                    }
-                    value.beLate(draft.add('d', asNode(value), 0, 0), false);
-                    break;
-            }
-        }
-
         private void assign(int item, char kind, int name) {
             if (value.isKnown) {
                 now.know(item, value.number);
@@ -1343,6 +1354,14 @@ public final class Bindtime {
             } else {
                 value.beLate(node, false);
             }
+        }
+
+        private void finishThrow() {
+            if (now.hasAnyOfFirst(seenItems())) {
+                settle(value, rowEnd);
+                carryOutKnown(seenItems());
+            }
+            value.beLate(draft.add('d', asNode(value), 0, 0), false);
         }
 
         private void finishPair(char kind, Value first) {
@@ -1377,7 +1396,7 @@ public final class Bindtime {
                 hasFailed = true;
                 return;
             }
-            settle(value);
+            settle(value, rowEnd);
             Frame frame = frames[frameCount];
             frame.first.take(first);
             frame.second.take(value);
@@ -1410,9 +1429,6 @@ public final class Bindtime {
             task.kept = value.node;
             task.testIsIdle = value.isIdle;
             task.rowStart = rowEnd;
-            if (task.knowledge == null) {
-                task.knowledge = new Knowledge();
-            }
             task.knowledge.take(now);
             push(part(task, 1));
         }
@@ -1428,12 +1444,13 @@ public final class Bindtime {
 
         private void finishChoice(Task task) {
             boolean isSame = task.first.isKnownLike(value);
+            int zero = draft.add('n', 0, 0, 0);
             carryOutUnlike(now, task.knowledge, value);
             boolean isEmpty = rowEnd == task.secondRowStart;
-            int otherwise = rowAsNode(task.secondRowStart, isSame ? numberNode(0) : asNode(value));
+            int otherwise = rowAsNode(task.secondRowStart, isSame ? zero : asNode(value));
             carryOutUnlike(task.knowledge, now, task.first);
             isEmpty = isEmpty && rowEnd == task.rowStart;
-            int then = rowAsNode(task.rowStart, isSame ? numberNode(0) : asNode(task.first));
+            int then = rowAsNode(task.rowStart, isSame ? zero : asNode(task.first));
             forgetUnlike(task.knowledge);
             if (!isSame) {
                 value.beLate(draft.add('?', task.kept, then, otherwise), false);
@@ -1451,13 +1468,13 @@ public final class Bindtime {
 
         private void joinParts(Task task) {
             if (rowEnd > task.rowStart) {
-                settleAt(task.first, task.rowStart);
+                settle(task.first, task.rowStart);
             }
         }
 
         private int closeTryPart(Task task) {
             if (now.hasAnyOfFirst(itemCount())) {
-                settle(value);
+                settle(value, rowEnd);
                 carryOutKnown(itemCount());
             }
             return rowAsNode(task.rowStart, asNode(value));
@@ -1465,41 +1482,37 @@ public final class Bindtime {
 
         // Settling, carrying out, and rows
 
-        private void settle(Value which) {
-            settleAt(which, rowEnd);
-        }
-
-        private void settleAt(Value which, int place) {
-            if (which.isKnown || draft.kindOf(which.node) == 'p') {
+        private void settle(Value which, int place) {
+            if (which.isKnown || draft.kindOf(which.node) == 'p' || place < 0 || rowEnd >= row.length) {
                 return;
             }
-            int slot = slotCount;
+            for (int i = rowEnd; i > place; i--) {
+                row[i] = row[i - 1];
+            }
+            row[place] = draft.add('s', slotCount, which.node, 0);
+            rowEnd++;
+            which.beLate(draft.add('x', slotCount, 0, 0), true);
             slotCount++;
-            insertAhead(draft.add('s', slot, which.node, 0), place);
-            which.beLate(draft.add('x', slot, 0, 0), true);
         }
 
         /** How many items, from the first on, are seen when a number is thrown: the slots only where it is caught. */
         private int seenItems() {
-            return openTries > 0 ? itemCount() : CELLS;
+            return openTries > 0 ? CELLS + SLOTS * frameCount : CELLS;
         }
 
         private void makeSafe(Value first) {
-            if (mustBeSafe()) {
-                settle(first);
-                settle(value);
+            if (now.hasAnyOfFirst(seenItems())) {
+                settle(first, rowEnd);
+                settle(value, rowEnd);
                 carryOutKnown(seenItems());
             }
-        }
-
-        private boolean mustBeSafe() {
-            return now.hasAnyOfFirst(seenItems());
         }
 
         private void carryOutKnown(int items) {
             for (int item = 0; item < items; item++) {
                 if (now.has(item)) {
-                    putAhead(carriedOut(item, now.numberOf(item)));
+                    int number = draft.add('n', now.numberOf(item), 0, 0);
+                    putAhead(draft.add(item < CELLS ? 'w' : 's', nameOf(item), number, 0));
                     now.forget(item);
                 }
             }
@@ -1511,10 +1524,11 @@ public final class Bindtime {
             for (int item = 0; item < itemCount(); item++) {
                 if (mine.has(item) && !mine.agreesOn(item, others)) {
                     if (isFirst) {
-                        settle(branchValue);
+                        settle(branchValue, rowEnd);
                     }
                     isFirst = false;
-                    putAhead(carriedOut(item, mine.numberOf(item)));
+                    int number = draft.add('n', mine.numberOf(item), 0, 0);
+                    putAhead(draft.add(item < CELLS ? 'w' : 's', nameOf(item), number, 0));
                 }
             }
         }
@@ -1527,20 +1541,16 @@ public final class Bindtime {
             }
         }
 
-        private int carriedOut(int item, int number) {
+        private int nameOf(int item) {
             if (item < CELLS) {
-                return draft.add('w', item, numberNode(number), 0);
+                return item;
             }
-            int frame = Math.min((item - CELLS) / SLOTS, frames.length - 1);
-            return draft.add('s', frames[frame].firstSlot + (item - CELLS) % SLOTS, numberNode(number), 0);
-        }
-
-        private int numberNode(int number) {
-            return draft.add('n', number, 0, 0);
+            int frame = (item - CELLS) / SLOTS;
+            return frame < frames.length ? frames[frame].firstSlot + (item - CELLS) % SLOTS : 0;
         }
 
         private int asNode(Value which) {
-            return which.isKnown ? numberNode(which.number) : which.node;
+            return which.isKnown ? draft.add('n', which.number, 0, 0) : which.node;
         }
 
         private void putAheadUnlessIdle(Value which) {
@@ -1550,16 +1560,8 @@ public final class Bindtime {
         }
 
         private void putAhead(int node) {
-            insertAhead(node, rowEnd);
-        }
-
-        private void insertAhead(int node, int place) {
-            row = widened(row, rowEnd + 1);
-            for (int i = rowEnd; i > place && i > 0; i--) {
-                row[i] = row[i - 1];
-            }
-            if (place >= 0 && place <= rowEnd) {
-                row[place] = node;
+            if (rowEnd < row.length) {
+                row[rowEnd] = node;
                 rowEnd++;
             }
         }
@@ -1567,7 +1569,7 @@ public final class Bindtime {
         /** Takes the end of the row away, from a place on, and answers it as one node. */
         private int rowAsNode(int from, int last) {
             int node = last;
-            for (int i = rowEnd - 1; i >= from && i >= 0; i--) {
+            for (int i = Math.min(rowEnd, row.length) - 1; i >= from && i >= 0; i--) {
                 node = draft.add(';', row[i], node, 0);
             }
             rowEnd = from;
@@ -1619,7 +1621,11 @@ public final class Bindtime {
 
         /** Answers false if the making fails by this. */
         boolean makeNext() {
-            int root = maker.makeBody(doneCount);
+            maker.open(doneCount);
+            for (int turn = 0; turn < Maker.MOST_TURNS && maker.isAtWork(); turn++) {
+                maker.goOn();
+            }
+            int root = maker.close();
             if (root == NONE || !keep(root)) {
                 phase = FAILED;
                 return false;
@@ -1656,6 +1662,7 @@ public final class Bindtime {
             Code code = product.code;
             int start = code.size();
             forgetSlotNames();
+            code.reserve(MOST_NODES_DONE + 3 - start);
             copy(root);
             for (int node = start; node < code.size() && code.size() <= MOST_NODES_DONE; node++) {
                 for (int place = 0; place < 3; place++) {
