@@ -1268,7 +1268,17 @@ public final class Bindtime {
                 push(part(task, 2));
             } else if (stage == 2) {
                 joinParts(task);
-                decideCall(task, part(task, 0));
+                int procedure = part(task, 0);
+                if (bodyAt(procedure) == NONE) {
+                    dropCall(task.first);
+                    pop();
+                } else if (task.first.isKnown && frameCount - 1 < aheadLimit) {
+                    carryOutCall(task.first, procedure);
+                } else {
+                    makeSafe(task.first);
+                    callMade(task.first, procedure);
+                    pop();
+                }
             } else {
                 frameCount--;
                 pop();
@@ -1377,18 +1387,10 @@ public final class Bindtime {
             value.beLate(draft.add(kind, asNode(first), asNode(value), 0), idle);
         }
 
-        private void decideCall(Task task, int procedure) {
-            if (bodyAt(procedure) == NONE) {
-                putAheadUnlessIdle(task.first);
-                putAheadUnlessIdle(value);
-                value.know(0);
-                pop();
-            } else if (task.first.isKnown && frameCount - 1 < aheadLimit) {
-                carryOutCall(task.first, procedure);
-            } else {
-                callMade(task.first, procedure);
-                pop();
-            }
+        private void dropCall(Value first) {
+            putAheadUnlessIdle(first);
+            putAheadUnlessIdle(value);
+            value.know(0);
         }
 
         private void carryOutCall(Value first, int procedure) {
@@ -1405,7 +1407,6 @@ public final class Bindtime {
         }
 
         private void callMade(Value first, int procedure) {
-            makeSafe(first);
             int made = found.findOrAdd(procedure, first, value);
             if (made == NONE) {
                 hasFailed = true;
