@@ -3,6 +3,9 @@ import java.util.NoSuchElementException;
 /** Runs of calls that a fixed row of numbers chooses, on Bindtime and on Oracle; each answer must be the same. */
 public final class FuzzTest {
     private static final String KINDS = "npxsrw+-*<=/?;ciodt";
+    /** From this style on, a procedure calls only those with higher numbers, so that most runs end. */
+    private static final int LAYERED = 8;
+    private static final int LAYER = 9;
     private static long seed;
     private static int wrong;
     private static int unlike;
@@ -46,7 +49,7 @@ public final class FuzzTest {
             seed = round * 7919L;
             trail.setLength(0);
             trail.append("round ").append(round).append('\n');
-            play(round % 8);
+            play(round % 10);
         }
         System.out.println(rounds + " rounds; makings done " + seen['d'] + ", failed " + seen['f'] + "; runs ended "
                 + seen['E'] + ", thrown " + seen['D'] + ", over " + seen['L'] + "; not like: " + unlike);
@@ -58,7 +61,11 @@ public final class FuzzTest {
     private static void play(int style) {
         Bindtime x = new Bindtime();
         Oracle y = new Oracle();
-        addNodes(x, y, style);
+        if (style < LAYERED) {
+            addNodes(x, y, style);
+        } else {
+            addLayers(x, y, style);
+        }
         for (int turn = 0; turn < 12; turn++) {
             setSome(x, y, style);
             makeAndLook(x, y);
@@ -102,12 +109,45 @@ public final class FuzzTest {
         }
     }
 
+    /** The nodes of procedure 4 first, and those of procedure 0 last. */
+    private static void addLayers(Bindtime x, Oracle y, int style) {
+        add(x, y, 'p', 0, 0, 0);
+        add(x, y, 'p', 1, 0, 0);
+        add(x, y, 'n', below(5) - 1, 0, 0);
+        for (int i = 3; i < 3 + 5 * LAYER; i++) {
+            int procedure = 4 - (i - 3) / LAYER;
+            char kind = (style == LAYERED ? "xxsss+-cci;;;o?" : "xsrw+-/=cci;;;odt??").charAt(below(style == LAYERED ? 15 : 19));
+            kind = kind == 'c' && procedure == 4 ? 's' : kind;
+            String parts = Oracle.partsOf(kind);
+            int[] numbers = new int[3];
+            for (int place = 0; place < 3; place++) {
+                if (parts.indexOf("abc".charAt(place)) >= 0) {
+                    numbers[place] = below(2) == 0 ? below(3) : Math.max(below(3), i - 1 - below(5));
+                }
+            }
+            if (parts.indexOf('a') < 0) {
+                numbers[0] = kind == 'c' ? procedure + 1 + below(4 - procedure) : kind == 'i' ? 0 : below(2);
+            }
+            add(x, y, kind, numbers[0], numbers[1], numbers[2]);
+        }
+        for (int procedure = 0; procedure < 5; procedure++) {
+            setBody(x, y, procedure, 2 + LAYER * (5 - procedure));
+        }
+    }
+
+    private static void setBody(Bindtime x, Oracle y, int procedure, int node) {
+        same("setBody(" + procedure + " " + node + ")", () -> x.setBody(procedure, node), () -> y.setBody(procedure, node));
+    }
+
     private static void setSome(Bindtime x, Oracle y, int style) {
-        for (int i = below(4) + (style % 3); i >= 0; i--) {
+        for (int i = style < LAYERED ? below(4) + (style % 3) : -1; i >= 0; i--) {
             int procedure = below(40) == 0 ? 5 : below(5);
             int node = below(20) == 0 ? below(52) - 2 : y.nodes.size() - 1 - below(Math.min(12, y.nodes.size()));
-            same("setBody(" + procedure + " " + node + ")", () -> x.setBody(procedure, node),
-                    () -> y.setBody(procedure, node));
+            setBody(x, y, procedure, node);
+        }
+        if (style >= LAYERED && below(3) == 0) {
+            int procedure = below(5);
+            setBody(x, y, procedure, 2 + LAYER * (5 - procedure) - below(LAYER));
         }
         int ahead = below(9) - 1;
         int made = below(6);

@@ -55,6 +55,7 @@ public final class MakingTest {
         callAhead();
         callMade();
         whatIsFound();
+        slotsOfMade();
         limits();
         Check.end("MakingTest");
     }
@@ -271,6 +272,25 @@ public final class MakingTest {
                 made(7, 0, 3, "(+ (c 1 (n 1) (p 1)) (c 2 (n 1) (p 1)))", "(c 3 (p 0) (p 1))", "(c 4 (p 0) (p 1))",
                         "(d (n 3))", "(o (p 1))"),
                 "(+ (c 1 (p 0)) (c 2 (p 0)))", "(c 3 (p 0))", "(c 4 (p 0))", "(d (n 3))", "(o (p 0))");
+    }
+
+    /** Each made procedure that is run has slots of its own, and as many as are needed. */
+    private static void slotsOfMade() {
+        Bindtime x = made(7, "(; (s 0 (p 1)) (+ (* (c 1 (p 1) (p 0)) (n 100)) (x 0)))",
+                "(; (s 0 (+ (p 0) (p 1))) (; (? (< (x 0) (n 50)) (c 1 (x 0) (p 1)) (n 0)) (x 0)))");
+        looks("slots of made ones", x,
+                "(; (s 0 (p 0)) (+ (* (c 1 (p 0)) (n 100)) (x 0)))",
+                "(; (s 0 (+ (p 0) (n 7))) (; (? (< (x 0) (n 50)) (c 1 (x 0)) (n 0)) (x 0)))");
+        Check.same("slots of made ones, end", x.run(true, 0, 30, 2000), 'e');
+        Check.same("slots of made ones, result", x.result(), 3730);
+        String sum = "(n 0)";
+        for (int i = 12; i >= 1; i--) {
+            sum = "(+ (c 1 (n " + i + ") (* (p 1) (p 1))) " + sum + ")";
+        }
+        Bindtime many = made(7, sum, "(; (s 0 (* (p 0) (p 1))) (+ (x 0) (p 0)))");
+        Check.same("many slots, end", many.run(true, 0, 3, 2000), 'e');
+        Check.same("many slots, result", many.result(), 780);
+        Check.same("many slots, consistent", many.isConsistent(), true);
     }
 
     private static void limits() {

@@ -459,6 +459,7 @@ public final class PromiseTest {
         Check.same("18 procedures that were thrown out of are not run", thrown.run(false, 0, 0, 2000), 'e');
         Check.same("19 procedures that were thrown out of are not run", thrown.result(), 3);
         deep();
+        deepInEachKind();
     }
 
     /** A call stands in so many nodes and two more, so that ten of them stand in 200 nodes, the innermost one counted. */
@@ -472,6 +473,22 @@ public final class PromiseTest {
             Check.same("18 inside of 199 or 200 nodes", x.run(false, 9, 0, 2000), more == 0 ? 'e' : 'l');
             Check.same("20 inside of 199 or 200 nodes", x.steps(), 9 * (18 + 2 + 5) - 9 + 18 + 3 + 9);
             Check.same("22 inside of 199 or 200 nodes", x.outputs(), more == 0 ? 180 : 0);
+        }
+    }
+
+    /** Each kind that asks parts is one node more around each of them: 18 levels a call, as in deep(). */
+    private static void deepInEachKind() {
+        String[] around = {"(s 0 *)", "(w 0 *)", "(+ * (n 0))", "(- (n 1) *)", "(/ * (n 1))", "(? * (n 1) (n 2))",
+            "(? (n 1) * (n 2))", "(? (n 0) (n 1) *)", "(; * (n 1))", "(; (n 1) *)", "(t * (n 1))", "(t (d (n 1)) *)",
+            "(c 4 * (n 1))", "(c 4 (n 1) *)", "(t (d *) (n 1))", "(o *)", "(o *)"};
+        for (int more = 0; more < 2; more++) {
+            String tree = "(? (p 0) (c 0 (- (p 0) (n 1)) (p 1)) " + (more == 0 ? "(n 7)" : "(o (n 7))") + ")";
+            for (String one : around) {
+                tree = one.replace("*", tree);
+            }
+            Bindtime x = with(tree);
+            Check.same("18 each kind, 199 or 200 nodes", x.run(false, 9, 0, 2000), more == 0 ? 'e' : 'l');
+            Check.same("22 each kind, 199 or 200 nodes", x.outputs(), more == 0 ? 20 : 0);
         }
     }
 
