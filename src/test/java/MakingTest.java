@@ -1,10 +1,12 @@
 /** The rules of making, each on a program whose made bodies were worked out by hand from the document. */
 public final class MakingTest {
-    private static Bindtime made(int early, String... bodies) {
+    private static final int[] INPUTS = {3, -4};
+
+    static Bindtime made(int early, String... bodies) {
         return made(early, 4, 3, bodies);
     }
 
-    private static Bindtime made(int early, int ahead, int most, String... bodies) {
+    static Bindtime made(int early, int ahead, int most, String... bodies) {
         Bindtime x = new Bindtime();
         Trees trees = new Trees(x);
         for (int i = 0; i < bodies.length; i++) {
@@ -14,14 +16,15 @@ public final class MakingTest {
         }
         x.setAhead(ahead);
         x.setMade(most);
-        x.addInput(3);
-        x.addInput(-4);
+        for (int number : INPUTS) {
+            x.addInput(number);
+        }
         x.begin(early);
         x.makeAll();
         return x;
     }
 
-    private static void looks(String name, Bindtime x, String... trees) {
+    static void looks(String name, Bindtime x, String... trees) {
         Check.same(name + ", state", x.state(), 'd');
         if (x.state() != 'd') {
             return;
@@ -30,6 +33,7 @@ public final class MakingTest {
         for (int i = 0; i < Math.min(trees.length, x.procedures()); i++) {
             Trees.looksLike(name + ", made " + i, x, i, trees[i]);
         }
+        Trees.runsLike(name, x, INPUTS, trees);
         Check.same(name + ", consistent", x.isConsistent(), true);
     }
 
@@ -76,7 +80,7 @@ public final class MakingTest {
         looks("less", made(5, "(< (p 0) (n 6))"), "(n 1)");
         looks("equal", made(5, "(= (p 0) (n 6))"), "(n 0)");
         Bindtime x = made(Integer.MIN_VALUE, "(/ (p 0) (n -1))");
-        looks("least by -1", x, "(n 0)");
+        looks("least by -1", x, "(n -2147483648)");
         x.run(true, 0, 0, 10);
         Check.same("least by -1, number", x.result(), Integer.MIN_VALUE);
     }

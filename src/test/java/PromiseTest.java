@@ -9,10 +9,6 @@ public final class PromiseTest {
     private static final Class<UnsupportedOperationException> UNSUPPORTED = UnsupportedOperationException.class;
     private static final Class<ArithmeticException> ARITHMETIC = ArithmeticException.class;
 
-    private static final String POWER = "(? (p 0) (* (p 1) (c 0 (- (p 0) (n 1)) (p 1))) (n 1))";
-    /** Calls itself with a growing first number as often as the second one tells. */
-    private static final String UP = "(? (p 1) (c 0 (+ (p 0) (n 1)) (- (p 1) (n 1))) (p 0))";
-
     public static void main(String[] args) {
         newObject();
         addNode();
@@ -38,33 +34,6 @@ public final class PromiseTest {
         meanSize();
         isConsistent();
         Check.end("PromiseTest");
-    }
-
-    private static Bindtime with(String... bodies) {
-        Bindtime x = new Bindtime();
-        Trees trees = new Trees(x);
-        for (int i = 0; i < bodies.length; i++) {
-            if (!bodies[i].isEmpty()) {
-                trees.body(i, bodies[i]);
-            }
-        }
-        return x;
-    }
-
-    private static Bindtime done(int early, String... bodies) {
-        Bindtime x = with(bodies);
-        x.begin(early);
-        x.makeAll();
-        return x;
-    }
-
-    private static Bindtime failed() {
-        // Each made procedure waits for a new one until 12 are there: 3 and the general one for each of 5.
-        Bindtime x = with("(; (c 1 (n 1) (i)) (; (c 1 (n 2) (i)) (c 1 (n 3) (i))))", "(; (c 2 (p 0) (i)) (c 2 (i) (p 0)))",
-                "(; (c 3 (p 0) (i)) (c 3 (i) (p 1)))", "(; (c 4 (p 0) (i)) (c 4 (i) (p 1)))", "(i)");
-        x.setAhead(0);
-        x.begin(1);
-        return x;
     }
 
     // 1
@@ -151,7 +120,7 @@ public final class PromiseTest {
     // 4 and 5
 
     private static void inputs() {
-        Bindtime x = with("(; (i) (i))");
+        Bindtime x = Build.with("(; (i) (i))");
         for (int i = 1; i <= 8; i++) {
             Check.same("4 number of inputs", x.addInput(i * 11), i);
         }
@@ -195,22 +164,22 @@ public final class PromiseTest {
 
     private static void isEarly() {
         early("nothing called", new Bindtime(), "1011111111");
-        early("sums of p of the set", with("(c 1 (+ (p 0) (n 1)) (* (p 0) (p 1)))"), "1010111111");
-        early("other parts are not early", with("(; (c 1 (/ (p 0) (n 1)) (n 1)) (c 2 (s 0 (n 1)) (; (n 1) (n 1))))"),
+        early("sums of p of the set", Build.with("(c 1 (+ (p 0) (n 1)) (* (p 0) (p 1)))"), "1010111111");
+        early("other parts are not early", Build.with("(; (c 1 (/ (p 0) (n 1)) (n 1)) (c 2 (s 0 (n 1)) (; (n 1) (n 1))))"),
                 "1001001111");
-        early("a chain of calls", with("(c 1 (p 1) (p 0))", "(c 2 (p 0) (p 1))", "(c 3 (p 0) (p 1))", "(c 4 (p 0) (p 1))"),
+        early("a chain of calls", Build.with("(c 1 (p 1) (p 0))", "(c 2 (p 0) (p 1))", "(c 3 (p 0) (p 1))", "(c 4 (p 0) (p 1))"),
                 "1001010101");
-        early("a call of itself", with("(c 0 (- (p 0) (n 1)) (n 3))"), "1011111111");
-        early("a call of itself with what is late", with("(c 0 (p 1) (n 3))"), "0011111111");
-        early("a procedure that nobody calls", with("(n 1)", "(c 1 (i) (p 0))"), "1000111111");
-        early("two that give one another", with("(n 1)", "(c 2 (p 0) (p 1))", "(c 1 (p 0) (i))"), "1010101111");
-        Bindtime x = with("(n 1)");
+        early("a call of itself", Build.with("(c 0 (- (p 0) (n 1)) (n 3))"), "1011111111");
+        early("a call of itself with what is late", Build.with("(c 0 (p 1) (n 3))"), "0011111111");
+        early("a procedure that nobody calls", Build.with("(n 1)", "(c 1 (i) (p 0))"), "1000111111");
+        early("two that give one another", Build.with("(n 1)", "(c 2 (p 0) (p 1))", "(c 1 (p 0) (i))"), "1010101111");
+        Bindtime x = Build.with("(n 1)");
         int call = new Trees(x).add("(c 1 (i) (i))");
         early("a call that stands in no body", x, "1011111111");
         x.setBody(3, call);
         early("a call as a body", x, "1000111111");
-        early("a node in two bodies", with("(c 1 (p 0) (p 0))", "(n 2)", "(c 1 (p 0) (p 0))", "(c 2 (i) (n 1))"), "1000011111");
-        early("inside of other nodes", with("(? (t (n 1) (o (c 3 (i) (n 2)))) (d (n 1)) (w 0 (c 2 (n 1) (r 0))))"),
+        early("a node in two bodies", Build.with("(c 1 (p 0) (p 0))", "(n 2)", "(c 1 (p 0) (p 0))", "(c 2 (i) (n 1))"), "1000011111");
+        early("inside of other nodes", Build.with("(? (t (n 1) (o (c 3 (i) (n 2)))) (d (n 1)) (w 0 (c 2 (n 1) (r 0))))"),
                 "1011100111");
         Check.refuses("8 no procedure 5", INDEX, () -> x.isEarly(5, 0));
         Check.refuses("8 no procedure -1", INDEX, () -> x.isEarly(-1, 1));
@@ -222,7 +191,7 @@ public final class PromiseTest {
 
     private static void begin() {
         Bindtime x = new Bindtime();
-        int node = new Trees(x).add(POWER);
+        int node = new Trees(x).add(Build.POWER);
         Check.refuses("9 no body", STATE, () -> x.begin(1));
         Check.same("9 refused", x.state(), '-');
         x.setBody(0, node);
@@ -250,7 +219,7 @@ public final class PromiseTest {
     // 10
 
     private static void make() {
-        Bindtime x = with(UP);
+        Bindtime x = Build.with(Build.UP);
         Check.refuses("10 not begun", STATE, x::make);
         x.begin(0);
         Check.same("10 first", x.make(), 1);
@@ -258,7 +227,7 @@ public final class PromiseTest {
         Check.same("10 third finds the general one", x.make(), 1);
         Check.same("10 general one", x.make(), 0);
         Check.refuses("10 done", STATE, x::make);
-        Bindtime y = failed();
+        Bindtime y = Build.failing();
         Check.same("10 finds 3", y.make(), 3);
         int waiting = 3;
         for (int i = 0; i < 12 && waiting >= 0; i++) {
@@ -274,19 +243,19 @@ public final class PromiseTest {
     // 11
 
     private static void makeAll() {
-        Bindtime x = with(UP);
+        Bindtime x = Build.with(Build.UP);
         Check.refuses("11 not begun", STATE, x::makeAll);
         x.begin(0);
         x.make();
         Check.same("11 all but one", x.makeAll(), 3);
         Check.refuses("11 done", STATE, x::makeAll);
-        Bindtime y = failed();
+        Bindtime y = Build.failing();
         int made = 0;
         while (y.make() >= 0) {
             made++;
         }
         Check.same("11 some are made", made > 1, true);
-        Bindtime z = failed();
+        Bindtime z = Build.failing();
         Check.same("11 without the one that fails", z.makeAll(), made);
         Check.same("11 failed", z.state(), 'f');
         Check.refuses("11 has failed", UNSUPPORTED, z::makeAll);
@@ -295,7 +264,7 @@ public final class PromiseTest {
     // 12
 
     private static void state() {
-        Bindtime x = with(UP);
+        Bindtime x = Build.with(Build.UP);
         Check.same("12 none begun", x.state(), '-');
         x.begin(0);
         Check.same("12 begun", x.state(), 'w');
@@ -305,7 +274,7 @@ public final class PromiseTest {
         Check.same("12 done", x.state(), 'd');
         x.begin(0);
         Check.same("12 begun again", x.state(), 'w');
-        Bindtime y = failed();
+        Bindtime y = Build.failing();
         y.makeAll();
         Check.same("12 failed", y.state(), 'f');
     }
@@ -313,7 +282,7 @@ public final class PromiseTest {
     // 13 to 15
 
     private static void found() {
-        Bindtime x = with("(; (c 1 (p 1) (n 4)) (c 2 (n 6) (n -3)))", "(p 0)", "(p 0)");
+        Bindtime x = Build.with("(; (c 1 (p 1) (n 4)) (c 2 (n 6) (n -3)))", "(p 0)", "(p 0)");
         x.setAhead(0);
         Check.refuses("13 not begun", STATE, x::procedures);
         Check.refuses("14 not begun", STATE, () -> x.original(9));
@@ -343,7 +312,7 @@ public final class PromiseTest {
     // 16 and 17
 
     private static void sizes() {
-        Bindtime x = with("(; (c 1 (p 1) (n 4)) (o (p 0)))", "(+ (p 0) (* (p 1) (p 0)))");
+        Bindtime x = Build.with("(; (c 1 (p 1) (n 4)) (o (p 0)))", "(+ (p 0) (* (p 1) (p 0)))");
         Check.refuses("16 nothing made", STATE, () -> x.sizeOf(0));
         Check.refuses("17 nothing made", STATE, () -> x.countOf(0, 'n'));
         x.begin(2);
@@ -360,7 +329,7 @@ public final class PromiseTest {
             Check.refuses("16 no made procedure " + wrong, INDEX, () -> x.sizeOf(wrong));
             Check.refuses("17 no made procedure " + wrong, INDEX, () -> x.countOf(wrong, 'n'));
         }
-        Bindtime y = failed();
+        Bindtime y = Build.failing();
         y.makeAll();
         Check.refuses("16 failed", STATE, () -> y.sizeOf(0));
         Check.refuses("17 failed", STATE, () -> y.countOf(0, 'n'));
@@ -370,7 +339,7 @@ public final class PromiseTest {
     // 18: what each kind gives
 
     private static void gives(String tree, int due, int steps, String out) {
-        Bindtime x = with(tree, "(; (s 0 (+ (x 0) (p 0))) (- (x 0) (p 1)))");
+        Bindtime x = Build.with(tree, "(; (s 0 (+ (x 0) (p 0))) (- (x 0) (p 1)))");
         x.addInput(30);
         x.addInput(40);
         Check.same("18 " + tree, x.run(false, 7, -2, 2000), 'e');
@@ -411,16 +380,16 @@ public final class PromiseTest {
         gives("(c 1 (p 0) (p 1))", 9, 3 + 8, "");
         gives("(; (s 0 (n 9)) (+ (c 1 (n 1) (n 2)) (x 0)))", 8, 5 + 3 + 8, "");
         gives("(c 3 (o (n 1)) (o (n 2)))", 0, 5, "1 2 ");
-        Bindtime x = with("(/ (p 0) (p 1))");
+        Bindtime x = Build.with("(/ (p 0) (p 1))");
         x.run(false, Integer.MIN_VALUE, -1, 9);
         Check.same("18 least by -1", x.result(), Integer.MIN_VALUE);
-        Bindtime y = with("(* (p 0) (p 1))");
+        Bindtime y = Build.with("(* (p 0) (p 1))");
         y.run(false, Integer.MAX_VALUE, 3, 9);
         Check.same("18 as Java does", y.result(), Integer.MAX_VALUE * 3);
     }
 
     private static void runCellsAndThrown() {
-        Bindtime x = with("(; (w 0 (p 0)) (; (c 1 (r 0) (p 1)) (w 1 (n 1))))", "(; (w 2 (+ (r 0) (n 1))) (d (p 1)))");
+        Bindtime x = Build.with("(; (w 0 (p 0)) (; (c 1 (r 0) (p 1)) (w 1 (n 1))))", "(; (w 2 (+ (r 0) (n 1))) (d (p 1)))");
         Check.same("18 thrown", x.run(false, 7, -2, 100), 'd');
         Check.same("19 thrown", x.result(), -2);
         Check.same("20 thrown", x.steps(), 14);
@@ -428,10 +397,10 @@ public final class PromiseTest {
         Check.same("21 cell 1", x.cell(1), 0);
         Check.same("21 cell 2", x.cell(2), 8);
         Check.same("21 cell 3 is of 't' alone", x.cell(3), 0);
-        Bindtime y = with("(/ (n 1) (p 0))");
+        Bindtime y = Build.with("(/ (n 1) (p 0))");
         Check.same("18 division by 0", y.run(false, 0, 0, 3), 'd');
         Check.same("19 division by 0", y.result(), 900);
-        Bindtime z = with("(t (c 1 (p 0) (p 1)) (t (d (+ (r 3) (n 1))) (d (r 3))))", "(d (p 1))");
+        Bindtime z = Build.with("(t (c 1 (p 0) (p 1)) (t (d (+ (r 3) (n 1))) (d (r 3))))", "(d (p 1))");
         Check.same("18 thrown behind", z.run(false, 1, 5, 100), 'd');
         Check.same("19 thrown behind", z.result(), 6);
         Check.same("21 thrown behind", z.cell(3), 6);
@@ -440,21 +409,21 @@ public final class PromiseTest {
     }
 
     private static void runOver() {
-        Bindtime x = with("(+ (p 0) (o (p 1)))");
+        Bindtime x = Build.with("(+ (p 0) (o (p 1)))");
         Check.same("18 as many steps as are allowed", x.run(false, 1, 2, 4), 'e');
         Check.same("18 one step less", x.run(false, 1, 2, 3), 'l');
         Check.same("19 over", x.result(), 0);
         Check.same("20 over", x.steps(), 3);
         Check.same("22 over", x.outputs(), 0);
-        Bindtime calls = with(UP);
+        Bindtime calls = Build.with(Build.UP);
         Check.same("18 ten are run", calls.run(false, 0, 9, 2000), 'e');
         Check.same("19 ten are run", calls.result(), 9);
         Check.same("18 eleven would be run", calls.run(false, 0, 10, 2000), 'l');
         Check.same("20 eleven would be run", calls.steps(), 10 * 9);
-        Bindtime caught = with("(? (p 1) (t (c 0 (p 0) (- (p 1) (n 1))) (n 5)) (c 3 (n 1) (n 2)))");
+        Bindtime caught = Build.with("(? (p 1) (t (c 0 (p 0) (- (p 1) (n 1))) (n 5)) (c 3 (n 1) (n 2)))");
         Check.same("18 a call without a body is none", caught.run(false, 0, 9, 2000), 'e');
         Check.same("18 over is not caught", caught.run(false, 0, 10, 2000), 'l');
-        Bindtime thrown = with("(; (t (c 1 (n 8) (n 0)) (n 0)) (c 1 (n 8) (n 1)))",
+        Bindtime thrown = Build.with("(; (t (c 1 (n 8) (n 0)) (n 0)) (c 1 (n 8) (n 1)))",
                 "(? (p 0) (c 1 (- (p 0) (n 1)) (p 1)) (? (p 1) (n 3) (d (n 1))))");
         Check.same("18 procedures that were thrown out of are not run", thrown.run(false, 0, 0, 2000), 'e');
         Check.same("19 procedures that were thrown out of are not run", thrown.result(), 3);
@@ -469,7 +438,7 @@ public final class PromiseTest {
             for (int i = 0; i < 18; i++) {
                 tree = "(o " + tree + ")";
             }
-            Bindtime x = with(tree);
+            Bindtime x = Build.with(tree);
             Check.same("18 inside of 199 or 200 nodes", x.run(false, 9, 0, 2000), more == 0 ? 'e' : 'l');
             Check.same("20 inside of 199 or 200 nodes", x.steps(), 9 * (18 + 2 + 5) - 9 + 18 + 3 + 9);
             Check.same("22 inside of 199 or 200 nodes", x.outputs(), more == 0 ? 180 : 0);
@@ -486,7 +455,7 @@ public final class PromiseTest {
             for (String one : around) {
                 tree = one.replace("*", tree);
             }
-            Bindtime x = with(tree);
+            Bindtime x = Build.with(tree);
             Check.same("18 each kind, 199 or 200 nodes", x.run(false, 9, 0, 2000), more == 0 ? 'e' : 'l');
             Check.same("22 each kind, 199 or 200 nodes", x.outputs(), more == 0 ? 20 : 0);
         }
@@ -495,7 +464,7 @@ public final class PromiseTest {
     private static void run() {
         Bindtime x = new Bindtime();
         Check.refuses("18 no body", STATE, () -> x.run(false, 1, 2, 0));
-        int node = new Trees(x).add(POWER);
+        int node = new Trees(x).add(Build.POWER);
         x.setBody(0, node);
         Check.refuses("18 nothing made", STATE, () -> x.run(true, 1, 2, 0));
         Check.refuses("18 no steps", ARGUMENT, () -> x.run(false, 1, 2, 0));
@@ -516,7 +485,7 @@ public final class PromiseTest {
         x.setBody(0, -1);
         Check.refuses("18 no body for the made one", STATE, () -> x.run(true, 1, 2, 5));
         Check.same("19 the last run stays", x.result(), 125);
-        Bindtime y = failed();
+        Bindtime y = Build.failing();
         y.makeAll();
         Check.refuses("18 failed", STATE, () -> y.run(true, 1, 2, 5));
     }
@@ -524,7 +493,7 @@ public final class PromiseTest {
     // 19 to 23
 
     private static void lastRun() {
-        Bindtime x = with("(; (o (p 0)) (; (w 1 (o (p 1))) (o (i))))");
+        Bindtime x = Build.with("(; (o (p 0)) (; (w 1 (o (p 1))) (o (i))))");
         Check.refuses("19 nothing was run", STATE, x::result);
         Check.refuses("20 nothing was run", STATE, x::steps);
         Check.refuses("21 nothing was run", STATE, () -> x.cell(9));
@@ -546,7 +515,7 @@ public final class PromiseTest {
         x.run(false, 1, 2, 3);
         Check.same("22 of the last run", x.outputs(), 1);
         Check.refuses("23 of the last run", ELEMENT, () -> x.output(1));
-        Bindtime many = with("(? (p 1) (; (c 1 (p 0) (p 0)) (c 0 (p 0) (- (p 1) (n 1)))) (n 0))",
+        Bindtime many = Build.with("(? (p 1) (; (c 1 (p 0) (p 0)) (c 0 (p 0) (- (p 1) (n 1)))) (n 0))",
                 "(; (; (; (o (n 1)) (o (n 2))) (; (o (n 3)) (o (n 4)))) (; (; (o (n 5)) (o (n 6))) (o (n 7))))");
         Check.same("22 many, end", many.run(false, 0, 9, 2000), 'e');
         Check.same("22 many", many.outputs(), 63);
@@ -556,7 +525,7 @@ public final class PromiseTest {
     // 24
 
     private static void allSteps() {
-        Bindtime x = with("(+ (p 0) (p 1))");
+        Bindtime x = Build.with("(+ (p 0) (p 1))");
         x.run(false, 1, 2, 100);
         x.run(false, 1, 2, 2);
         Check.same("24 all", x.allSteps(), 5L);
@@ -574,7 +543,7 @@ public final class PromiseTest {
     // 25
 
     private static void isLike() {
-        Bindtime x = with("(+ (p 0) (p 1))");
+        Bindtime x = Build.with("(+ (p 0) (p 1))");
         Check.refuses("25 nothing made", STATE, () -> x.isLike(0));
         x.begin(4);
         Check.refuses("25 not done", STATE, () -> x.isLike(0));
@@ -601,7 +570,7 @@ public final class PromiseTest {
         Check.same("25 something else is put out", x.isLike(3), false);
         x.setBody(0, -1);
         Check.refuses("25 no body", STATE, () -> x.isLike(0));
-        Bindtime y = failed();
+        Bindtime y = Build.failing();
         y.makeAll();
         Check.refuses("25 failed", STATE, () -> y.isLike(0));
     }
@@ -609,7 +578,7 @@ public final class PromiseTest {
     // 26
 
     private static void gain() {
-        Bindtime x = with(POWER);
+        Bindtime x = Build.with(Build.POWER);
         Check.refuses("26 nothing made", STATE, () -> x.gain(0));
         x.begin(4);
         Check.refuses("26 not done", STATE, () -> x.gain(0));
@@ -620,11 +589,11 @@ public final class PromiseTest {
         Check.refuses("26 over", ARITHMETIC, () -> x.gain(2));
         x.setBody(0, -1);
         Check.refuses("26 no body", STATE, () -> x.gain(0));
-        Bindtime y = done(1, "(+ (p 0) (p 1))");
+        Bindtime y = Build.done(1, "(+ (p 0) (p 1))");
         int loop = new Trees(y).add("(c 0 (n 1) (n 1))");
         y.setBody(0, loop);
         Check.refuses("26 the original is over", ARITHMETIC, () -> y.gain(2));
-        Bindtime z = failed();
+        Bindtime z = Build.failing();
         z.makeAll();
         Check.refuses("26 failed", STATE, () -> z.gain(0));
     }
@@ -632,27 +601,27 @@ public final class PromiseTest {
     // 27
 
     private static void meanSize() {
-        Bindtime x = with("(c 1 (p 1) (p 0))", "(i)");
+        Bindtime x = Build.with("(c 1 (p 1) (p 0))", "(i)");
         Check.refuses("27 nothing made", STATE, x::meanSize);
         x.begin(4);
         Check.refuses("27 not done", STATE, x::meanSize);
         x.makeAll();
         Check.same("27 of two", x.meanSize(), 1.5);
-        Bindtime y = done(0, UP);
+        Bindtime y = Build.done(0, Build.UP);
         Check.same("27 of four", y.meanSize(), (y.sizeOf(0) + y.sizeOf(1) + y.sizeOf(2) + y.sizeOf(3)) / 4.0);
     }
 
     // 28
 
     private static void isConsistent() {
-        Bindtime x = done(3, POWER);
+        Bindtime x = Build.done(3, Build.POWER);
         Check.same("28 done", x.isConsistent(), true);
         new Trees(x).body(0, "(n 3)");
         Check.same("28 a body was set since", x.isConsistent(), true);
         Check.same("28 though it is not like", x.isLike(2), false);
         x.begin(3);
         Check.same("28 one waits", x.isConsistent(), true);
-        Bindtime y = failed();
+        Bindtime y = Build.failing();
         y.makeAll();
         Check.same("28 failed", y.isConsistent(), true);
         x.makeAll();

@@ -1,4 +1,6 @@
+import java.util.ArrayList;
 import java.util.HashMap;
+import java.util.List;
 import java.util.Map;
 
 /**
@@ -62,6 +64,63 @@ final class Trees {
     private void skip() {
         while (text.charAt(at) == ' ') {
             at++;
+        }
+    }
+
+    /** A tree as nodes of the oracle, so that one that was worked out by hand can be run. */
+    static Oracle.Node parse(String tree) {
+        Trees trees = new Trees(null);
+        trees.text = tree;
+        return trees.parseNode();
+    }
+
+    private Oracle.Node parseNode() {
+        skip();
+        char kind = text.charAt(at + 1);
+        at += 2;
+        int number = 0;
+        List<Oracle.Node> parts = new ArrayList<>();
+        for (skip(); text.charAt(at) != ')'; skip()) {
+            if (text.charAt(at) == '(') {
+                parts.add(parseNode());
+            } else {
+                number = readNumber();
+            }
+        }
+        at++;
+        return new Oracle.Node(kind, number, parts.toArray(new Oracle.Node[0]));
+    }
+
+    /** Runs what was made and the trees that are due beside one another, with each number of steps up to the end. */
+    static void runsLike(String name, Bindtime x, int[] inputs, String... trees) {
+        Oracle due = new Oracle();
+        for (int number : inputs) {
+            due.addInput(number);
+        }
+        due.addNode('i', 0, 0, 0);
+        due.setBody(0, 0);
+        due.state = 'd';
+        for (String tree : trees) {
+            Oracle.Made made = new Oracle.Made(0, null, null);
+            made.body = parse(tree);
+            due.made.add(made);
+        }
+        for (int late = -1; late < 3; late++) {
+            char end = 'l';
+            for (int steps = 1; steps <= 60 && end == 'l'; steps++) {
+                end = x.run(true, 0, late, steps);
+                String at = name + ", late " + late + ", steps " + steps;
+                Check.same(at, end, due.run(true, 0, late, steps));
+                Check.same(at + ", result", x.result(), due.result());
+                Check.same(at + ", steps", x.steps(), due.steps());
+                for (int cell = 0; cell < 4; cell++) {
+                    Check.same(at + ", cell " + cell, x.cell(cell), due.cell(cell));
+                }
+                Check.same(at + ", outputs", x.outputs(), due.outputs());
+                for (int i = 0; i < due.outputs(); i++) {
+                    Check.same(at + ", output " + i, x.output(i), due.output(i));
+                }
+            }
         }
     }
 
