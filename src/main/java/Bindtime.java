@@ -973,7 +973,7 @@ public final class Bindtime {
         boolean hasTwins() {
             for (int made = 0; made < count; made++) {
                 for (int before = 0; before < made; before++) {
-                    if (originals[made] == originals[before] && agree(made, before, 0) && agree(made, before, 1)) {
+                    if (procedureOf(made) == procedureOf(before) && agree(made, before, 0) && agree(made, before, 1)) {
                         return true;
                     }
                 }
@@ -988,7 +988,7 @@ public final class Bindtime {
 
         private int indexOf(int procedure, Value first, Value second) {
             for (int made = 0; made < count; made++) {
-                if (originals[made] == procedure && isFor(2 * made, first) && isFor(2 * made + 1, second)) {
+                if (procedureOf(made) == procedure && isFor(2 * made, first) && isFor(2 * made + 1, second)) {
                     return made;
                 }
             }
@@ -996,13 +996,14 @@ public final class Bindtime {
         }
 
         private boolean isFor(int place, Value value) {
-            return isKnown[place] == value.isKnown && (!value.isKnown || numbers[place] == value.number);
+            return place >= 0 && place < isKnown.length && isKnown[place] == value.isKnown
+                    && (!value.isKnown || numbers[place] == value.number);
         }
 
         private int countFor(int procedure) {
             int sum = 0;
             for (int made = 0; made < count; made++) {
-                sum += originals[made] == procedure ? 1 : 0;
+                sum += procedureOf(made) == procedure ? 1 : 0;
             }
             return sum;
         }

@@ -31,6 +31,7 @@ public final class CallEdgeTest {
         known();
         sizes();
         isLike();
+        isLikeInAll();
         isLikeIsNoRun();
         gain();
         meanSize();
@@ -629,6 +630,49 @@ public final class CallEdgeTest {
         Check.same("25 unlike for one late number", late.isLike(3), false);
         Check.same("25 like for the one before", late.isLike(2), true);
         Check.same("25 like for the next one", late.isLike(4), true);
+    }
+
+    // "or both end alike, with the same number, cells and numbers that were put out"
+
+    private static void isLikeInAll() {
+        for (int cell = 0; cell < 4; cell++) {
+            Bindtime x = Build.done(4, "(; (w " + cell + " (p 1)) (n 1))");
+            Trees trees = new Trees(x);
+            Check.same("25 the same cell " + cell, x.isLike(5), true);
+            trees.body(0, "(; (w " + cell + " (n 5)) (n 1))");
+            Check.same("25 the same in this cell " + cell, x.isLike(5), true);
+            Check.same("25 not the same in this cell " + cell, x.isLike(6), false);
+        }
+        String[] outs = {"1 2 3", "1 2 4", "1 5 3", "6 2 3", "1 2", "2 3", "1 2 3 3", ""};
+        for (String one : outs) {
+            for (String other : outs) {
+                Bindtime x = Build.done(4, putting(one));
+                new Trees(x).body(0, putting(other));
+                Check.same("25 put out " + one + " and " + other, x.isLike(0), one.equals(other));
+            }
+        }
+        String[] ends = {"(n 5)", "(n 6)", "(d (n 5))", "(d (n 6))", "(; (o (n 5)) (n 5))", "(; (w 0 (n 5)) (n 5))"};
+        for (String one : ends) {
+            for (String other : ends) {
+                Bindtime x = Build.done(4, one);
+                new Trees(x).body(0, other);
+                Check.same("25 ends " + one + " and " + other, x.isLike(0), one.equals(other));
+            }
+            Bindtime x = Build.done(4, one);
+            new Trees(x).body(0, "(c 0 (p 1) (p 1))");
+            Check.same("25 the original is over, made " + one, x.isLike(0), true);
+            Bindtime y = Build.done(4, "(c 0 (p 1) (p 1))");
+            new Trees(y).body(0, one);
+            Check.same("25 the made one is over, original " + one, y.isLike(0), true);
+        }
+    }
+
+    private static String putting(String numbers) {
+        String tree = "(n 9)";
+        for (int i = numbers.length() - 1; i >= 0; i -= 2) {
+            tree = "(; (o (n " + numbers.charAt(i) + ")) " + tree + ")";
+        }
+        return tree;
     }
 
     // "which are no runs by themselves"

@@ -43,7 +43,7 @@ public final class FuzzTest {
     }
 
     public static void main(String[] args) {
-        int rounds = args.length > 0 ? Integer.parseInt(args[0]) : 800;
+        int rounds = args.length > 0 ? Integer.parseInt(args[0]) : 2000;
         int from = args.length > 1 ? Integer.parseInt(args[1]) : 1;
         for (int round = from; round < from + rounds && wrong == 0; round++) {
             seed = round * 7919L;

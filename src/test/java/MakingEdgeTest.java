@@ -32,6 +32,7 @@ public final class MakingEdgeTest {
         madeOfZero();
         orderOfWaiting();
         thirteenth();
+        deepMaking();
         sixHundred();
         sixHundredEach();
         threeHundred();
@@ -304,6 +305,11 @@ public final class MakingEdgeTest {
                 "(; (? (p 0) (o (i)) (n 5)) (; (w 0 (n 1)) (n 1)))");
         looks("a late value settled ahead of it", made(7, "(? (p 1) (; (s 0 (n 1)) (i)) (n 5))"),
                 "(? (p 0) (; (s 4 (i)) (; (s 0 (n 1)) (x 4))) (; (s 0 (n 0)) (n 5)))");
+        looks("a late value is settled once, though several are carried out",
+                made(7, "(? (p 1) (; (; (w 2 (n 1)) (w 1 (n 3))) (; (s 0 (n 1)) (i))) (n 5))"),
+                "(? (p 0) (; (s 4 (i)) (; (w 1 (n 3)) (; (w 2 (n 1)) (; (s 0 (n 1)) (x 4))))) (; (s 0 (n 0)) (n 5)))");
+        looks("late values of both", made(7, "(? (p 1) (; (s 0 (n 1)) (i)) (; (s 0 (n 2)) (o (i))))"),
+                "(? (p 0) (; (s 4 (i)) (; (s 0 (n 1)) (x 4))) (; (s 5 (o (i))) (; (s 0 (n 2)) (x 5))))");
         looks("a late value, nothing carried out", made(7, "(? (p 1) (; (s 0 (n 0)) (i)) (n 5))"), "(? (p 0) (i) (n 5))");
         looks("a known value, something carried out", made(7, "(? (p 1) (; (s 0 (n 1)) (n 4)) (i))"),
                 "(? (p 0) (; (s 0 (n 1)) (n 4)) (; (s 4 (i)) (; (s 0 (n 0)) (x 4))))");
@@ -402,6 +408,12 @@ public final class MakingEdgeTest {
         looks("no call has slots of another one", made(7, "(+ (c 1 (n 1) (p 1)) (c 1 (n 1) (r 0)))", "(; (s 0 (p 1)) (x 0))"),
                 "(; (s 4 (p 0)) (; (s 8 (x 4)) (; (s 9 (r 0)) (; (s 10 (x 9)) (+ (x 8) (x 10))))))");
         looks("slots are 0 again in the next call", made(7, "(+ (c 1 (n 1) (p 1)) (c 1 (n 2) (p 1)))", "(s 0 (+ (x 0) (p 0)))"), "(n 3)");
+        String late = "(- (c 1 (p 0) (p 1)) (x 1))";
+        looks("late slots of the caller stay", made(7, "(; (s 1 (p 1)) " + late + ")", "(; (s 1 (+ (p 1) (p 0))) (x 1))"),
+                "(; (s 1 (p 0)) (; (s 5 (+ (p 0) (n 7))) (- (x 5) (x 1))))");
+        looks("late slots of three stay", made(7, "(; (s 1 (p 1)) " + late + ")", "(; (s 1 (+ (p 1) (p 0))) (- (c 2 (p 0) (p 1)) (x 1)))",
+                "(; (s 1 (* (p 1) (p 0))) (x 1))"),
+                "(; (s 1 (p 0)) (; (s 5 (+ (p 0) (n 7))) (; (s 9 (* (p 0) (n 7))) (- (- (x 9) (x 5)) (x 1)))))");
         looks("slots of the caller stay", made(7, "(; (s 0 (n 5)) (; (c 1 (n 1) (p 1)) (x 0)))", "(s 0 (p 1))"),
                 "(; (s 4 (p 0)) (n 5))");
     }
@@ -510,6 +522,32 @@ public final class MakingEdgeTest {
         Check.same("fails by one that is made later", last.state(), 'f');
         Check.same("those before it are made", made, 10);
         Check.same("12 are there", last.procedures(), 12);
+    }
+
+    // Making has no depth of its own: calls that are carried out ahead may stand deeper than 200 nodes.
+
+    private static String around(int count, String tree) {
+        String result = tree;
+        for (int i = 0; i < count; i++) {
+            result = "(o " + result + ")";
+        }
+        return result;
+    }
+
+    private static void deepMaking() {
+        for (int more = 0; more < 2; more++) {
+            // 6 calls of 33 nodes, those of the procedure 0, and the innermost one.
+            Bindtime x = made(7, 6, 3, around(1 + more, "(c 1 (n 5) (p 1))"), around(33, "(? (p 0) (c 1 (- (p 0) (n 1)) (p 1)) (i))"));
+            Check.same("deep, nodes", x.sizeOf(0), 200 + more);
+            Check.same("made, inside of " + (199 + more), x.run(true, 0, 0, 2000), more == 0 ? 'e' : 'l');
+            Check.same("made, inside of " + (199 + more) + ", steps", x.steps(), 200);
+            Check.same("made, inside of " + (199 + more) + ", outputs", x.outputs(), more == 0 ? 199 : 0);
+            Check.same("made, inside of " + (199 + more) + ", like", x.isLike(0), true);
+        }
+        Bindtime x = made(6, 6, 3, around(41, "(? (p 0) (c 0 (- (p 0) (n 1)) (p 1)) (i))"));
+        Check.same("deeper than any run", x.sizeOf(0), 288);
+        Check.same("deeper than any run, over", x.run(true, 0, 0, 2000), 'l');
+        Check.same("deeper than any run, steps", x.steps(), 200);
     }
 
     // "if a node is to be made, and 600 were, of the same made procedure, those counted of which nothing stands in the end"
