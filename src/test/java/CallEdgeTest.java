@@ -23,6 +23,7 @@ public final class CallEdgeTest {
         isEarlyRanges();
         isEarlyParts();
         isEarlyBodies();
+        isEarlyOfAllNodes();
         begin();
         bodiesAndLimitsOfTheMoment();
         make();
@@ -36,6 +37,7 @@ public final class CallEdgeTest {
         gain();
         meanSize();
         isConsistent();
+        noTwoAlike();
         Check.end("CallEdgeTest");
     }
 
@@ -358,6 +360,25 @@ public final class CallEdgeTest {
         }
     }
 
+    // "in any node that is there", also in the last one of 48
+
+    private static void isEarlyOfAllNodes() {
+        Bindtime x = new Bindtime();
+        x.addNode('p', 0, 0, 0);
+        x.addNode('p', 1, 0, 0);
+        for (int node = 2; node < 47; node++) {
+            x.addNode('+', node - 1, 0, 0);
+        }
+        Check.same("8 the last node", x.addNode('c', 1, 46, 0), 47);
+        answers("8 the last node stands in no body", () -> x.isEarly(1, 0), true);
+        x.setBody(0, 47);
+        answers("8 the last node gives what is late", () -> x.isEarly(1, 0), false);
+        answers("8 the last node gives what is early", () -> x.isEarly(1, 1), true);
+        x.setBody(0, 46);
+        x.setBody(2, 47);
+        answers("8 the last node in another body", () -> x.isEarly(1, 0), true);
+    }
+
     // Promise 9: "the number of procedures that wait, 1", "if the procedure 0 has no body"
 
     private static void begin() {
@@ -661,9 +682,11 @@ public final class CallEdgeTest {
             Bindtime x = Build.done(4, one);
             new Trees(x).body(0, "(c 0 (p 1) (p 1))");
             Check.same("25 the original is over, made " + one, x.isLike(0), true);
+            answers("26 the original is over, made " + one, () -> x.gain(0), ARITHMETIC);
             Bindtime y = Build.done(4, "(c 0 (p 1) (p 1))");
             new Trees(y).body(0, one);
             Check.same("25 the made one is over, original " + one, y.isLike(0), true);
+            answers("26 the made one is over, original " + one, () -> y.gain(0), ARITHMETIC);
         }
     }
 
@@ -703,6 +726,7 @@ public final class CallEdgeTest {
     private static void gain() {
         Bindtime x = Build.done(4, "(+ (p 0) (n 1))");
         Check.same("26 one step by three", x.gain(0), 1.0f / 3.0f);
+        Check.same("26 one step by one", Build.done(4, "(n 5)").gain(0), 1.0f);
         Bindtime same = Build.done(4, "(+ (p 1) (i))");
         Check.same("26 as many", same.gain(0), 1.0f);
         Bindtime more = Build.done(4, "(w 2 (n 1))");
@@ -753,5 +777,21 @@ public final class CallEdgeTest {
         Check.same("28 no body at all", x.isConsistent(), true);
         Check.same("28 has failed", Build.failed().isConsistent(), true);
         Check.same("28 both are over", Build.done(0, "(c 0 (p 1) (p 1))").isConsistent(), true);
+    }
+
+    // "no two made procedures have the same procedure and known numbers": those that are alike in part are no such two
+
+    private static void noTwoAlike() {
+        String[] calls = {"(+ (c 1 (n 5) (p 1)) (+ (c 1 (n 5) (n 7)) (+ (c 1 (p 1) (n 5)) (c 1 (p 1) (n 7)))))",
+            "(+ (c 1 (n 0) (p 1)) (+ (c 1 (p 1) (n 0)) (+ (c 1 (n 0) (n 0)) (c 1 (p 1) (p 1)))))",
+            "(+ (c 1 (n 5) (n 6)) (+ (c 1 (n 7) (n 8)) (+ (c 2 (n 5) (n 6)) (c 2 (n 7) (n 8)))))"};
+        for (String tree : calls) {
+            Bindtime x = Build.with(tree, "(- (p 0) (p 1))", "(- (p 1) (p 0))");
+            x.setAhead(0);
+            x.setMade(4);
+            x.begin(0);
+            Check.same("28 alike in part, made", x.makeAll(), 5);
+            Check.same("28 alike in part " + tree, x.isConsistent(), true);
+        }
     }
 }

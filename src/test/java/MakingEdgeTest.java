@@ -37,6 +37,10 @@ public final class MakingEdgeTest {
         sixHundredEach();
         threeHundred();
         threeHundredOfMany();
+        longRows();
+        slotsAsManyAsNeeded();
+        slotsOfCallsThatAreDone();
+        afterOneThatFailed();
         Check.end("MakingEdgeTest");
     }
 
@@ -647,5 +651,90 @@ public final class MakingEdgeTest {
         z.begin(7);
         Check.same("7 and 292 and 2 nodes", z.makeAll(), 2);
         Check.same("301 nodes", z.state(), 'f');
+    }
+
+    // "A node that is made gives a row of nodes that stand ahead", which has no bound but the limits of nodes
+
+    /** So many inputs that are read one after the other, although it has few different nodes. */
+    private static String inRow(int count) {
+        return count == 1 ? "(i)" : "(; " + inRow(count / 2) + " " + inRow(count - count / 2) + ")";
+    }
+
+    /** So many late nodes, an odd number, of which nothing stands in a row. */
+    private static String idle(int count) {
+        int half = (count - 1) / 2;
+        return count == 1 ? "(r 0)" : "(+ " + idle(half - (half + 1) % 2) + " " + idle(count - 1 - half + (half + 1) % 2) + ")";
+    }
+
+    private static void longRows() {
+        for (int count : new int[] {32, 33, 34, 149, 150}) {
+            Bindtime x = made(7, inRow(count));
+            Check.same("row of " + count + ", size", x.sizeOf(0), 2 * count - 1);
+            Check.same("row of " + count + ", inputs", x.countOf(0, 'i'), count);
+            Check.same("row of " + count + ", ended", x.run(true, 0, 0, 2000), 'e');
+            Check.same("row of " + count + ", steps", x.steps(), 2 * count - 1);
+        }
+        fails("row of 151", made(7, inRow(151)));
+        Bindtime x = made(7, "(; " + inRow(130) + " (; " + idle(301) + " (o (p 1))))");
+        Check.same("a row beside idle nodes, size", x.sizeOf(0), 262);
+        Check.same("a row beside idle nodes, inputs", x.countOf(0, 'i'), 130);
+        Check.same("a row beside idle nodes, cells", x.countOf(0, 'r'), 0);
+        x.run(true, 0, 8, 2000);
+        Check.same("a row beside idle nodes, what stands behind", Build.outcome(() -> x.output(0)), 8);
+    }
+
+    // "has as many slots as are needed"
+
+    private static void slotsAsManyAsNeeded() {
+        String sum = "(+ (+ (x 0) (x 1)) (+ (x 2) (x 3)))";
+        Bindtime x = made(7, "(c 1 (p 1) (p 1))", "(? (p 0) (; (; (s 0 (p 0)) (s 1 (p 0))) (; (; (s 2 (p 0)) (s 3 (p 0))) "
+                + "(+ (+ (i) (; (o (n 1)) (c 1 (- (p 0) (n 1)) (p 1)))) " + sum + "))) (n 0))");
+        x.clearInputs();
+        for (int i = 1; i <= 8; i++) {
+            x.addInput(i);
+        }
+        Check.same("five slots in ten procedures", x.run(true, 0, 8, 2000), 'e');
+        Check.same("five slots in ten procedures, result", x.result(), 36 + 4 * 36);
+        // Four late ones, a settled one, and in the other part of '?' the four that are known there.
+        Check.same("five slots in ten procedures, 's'", x.countOf(1, 's'), 4 + 1 + 4);
+        Check.same("five slots in ten procedures, like", x.isLike(8), true);
+    }
+
+    // "of each one that is being carried out ahead in it": behind a call, nothing of its slots is carried out
+
+    private static void slotsOfCallsThatAreDone() {
+        looks("ahead of 't'", made(7, "(; (c 1 (n 1) (p 1)) (t (n 1) (n 2)))", "(s 0 (n 5))"), ZEROS + "(t (n 1) (n 2))))))");
+        looks("in a 't'", made(7, "(t (c 1 (n 1) (p 1)) (c 1 (n 1) (p 1)))", "(s 0 (n 5))"), ZEROS + "(t (n 5) (n 5))))))");
+        looks("in one part of '?'", made(7, "(? (p 1) (c 1 (n 1) (p 1)) (n 6))", "(s 0 (n 5))"), "(? (p 0) (n 5) (n 6))");
+        looks("in both parts of '?'", made(7, "(? (p 1) (c 1 (n 5) (p 1)) (c 1 (n 6) (p 1)))", "(s 0 (p 0))"),
+                "(? (p 0) (n 5) (n 6))");
+        looks("slots of the call are not those of its caller",
+                made(7, "(; (s 0 (p 1)) (+ (c 1 (p 0) (p 1)) (x 0)))", "(; (s 0 (n 5)) (t (n 1) (n 1)))"),
+                "(; (s 0 (p 0)) (; (s 1 (n 0)) (; (s 2 (n 0)) (; (s 3 (n 0)) (; (s 4 (n 5)) (; (s 5 (n 0)) (; (s 6 (n 0)) "
+                        + "(; (s 7 (n 0)) (+ (t (n 1) (n 1)) (x 0))))))))))");
+        looks("a call without a body has none", made(7, "(; (c 1 (n 1) (n 2)) (s 0 (n 5)))"), "(n 5)");
+    }
+
+    // "one that was made before is gone", also one that failed within parts that are not done
+
+    private static void afterOneThatFailed() {
+        String[] failing = {"(; (o (n 1)) (t (; (w 0 (n 5)) (; (s 1 (n 4)) " + known(601) + ")) (n 1)))",
+            "(; (o (n 1)) (; (w 0 (n 5)) (? (p 1) (+ (i) (; (o (n 2)) " + known(601) + ")) (n 1))))",
+            "(c 1 (n 1) (; (w 0 (n 5)) (; (w 3 (n 5)) (c 1 (n 2) (p 1)))))"};
+        for (String tree : failing) {
+            Bindtime x = Build.with(tree, "(+ (p 1) (; (o (p 0)) (; (s 1 (n 4)) (c 1 (p 0) (p 1)))))");
+            x.setAhead(6);
+            x.setMade(1);
+            if (tree.startsWith("(c")) {
+                new Trees(x).body(1, "(t (; (s 1 (n 4)) " + known(601) + ") (n 1))");
+            }
+            x.begin(7);
+            Check.same("fails " + tree, x.makeAll(), 0);
+            fails("fails " + tree, x);
+            new Trees(x).body(0, "(; (s 1 (n 3)) (; (/ (i) (p 1)) (+ (r 0) (x 1))))");
+            x.begin(7);
+            Check.same("after one that failed", x.makeAll(), 1);
+            looks("after " + tree, x, "(; (/ (i) (p 0)) (+ (r 0) (n 3)))");
+        }
     }
 }
